@@ -1,7 +1,13 @@
+import java.util.function.Supplier;
+import java.util.function.ToLongFunction;
+
 /** Counts and prints the calls whose answer is not the one that is due. */
 final class Check {
     /** What about and told answer where there is nothing to tell. */
     static final long NOTHING = -1000000000000000001L;
+
+    /** What {@link #answerOfPost} gives for a post that throws. */
+    static final long THROWN = Long.MIN_VALUE;
 
     private final String topic;
     private int wrong;
@@ -13,18 +19,12 @@ final class Check {
     void due(String call, long got, long want) {
         if (got != want) {
             wrong++;
-            System.out.println(topic + ": " + call + " answered " + got + ", due is " + want);
+            System.out.println(topic + ": " + call + " answered " + text(got) + ", due is " + text(want));
         }
     }
 
     void postThrows(String call, FundBook book) {
-        boolean thrown = false;
-        try {
-            book.post();
-        } catch (IllegalStateException e) {
-            thrown = true;
-        }
-        due(call + " throws IllegalStateException (1 yes, 0 no)", thrown ? 1 : 0, 1);
+        due(call + ": post()", answerOfPost(book), THROWN);
     }
 
     /** The four amounts of a fund: GIVEN, ENCUMBERED, SPENT, and FREE as what is left of the first. */
@@ -35,10 +35,28 @@ final class Check {
         due(when + ", FREE of fund " + fund, book.about(fund, 3), given - encumbered - spent);
     }
 
+    /** A call that is refused, and by which nothing happens: a twin without that call answers alike ever after. */
+    void refused(String call, Supplier<FundBook> scene, ToLongFunction<FundBook> deed, long want) {
+        for (int seed = 0; seed < Twins.SEEDS; seed++) {
+            FundBook book = scene.get();
+            due(call, deed.applyAsLong(book), want);
+            String difference = new Twins(book, scene.get(), seed).difference();
+            due(call + ": something happened by it: " + difference + " (1 yes, 0 no)", difference.isEmpty() ? 0 : 1, 0);
+        }
+    }
+
     void end() {
         if (wrong != 0) {
             System.out.println(topic + ": " + wrong + " answers are not as due");
             System.exit(1);
+        }
+    }
+
+    static long answerOfPost(FundBook book) {
+        try {
+            return book.post();
+        } catch (IllegalStateException e) {
+            return THROWN;
         }
     }
 
@@ -52,5 +70,15 @@ final class Check {
             }
         }
         return book;
+    }
+
+    /** Persons 1 and 2 approve an order. */
+    static void approveByTwo(FundBook book, int order) {
+        book.approve(order, 1);
+        book.approve(order, 2);
+    }
+
+    private static String text(long answer) {
+        return answer == THROWN ? "throws.IllegalStateException" : Long.toString(answer);
     }
 }
